@@ -1004,6 +1004,8 @@ public final class Downhill {
         /** For the PARTS at each place of the one TERM and at each place of the other one. */
         private final long[][] alike = new long[KEPT_SIZE][KEPT_SIZE];
         private final long[][] greater = new long[KEPT_SIZE][KEPT_SIZE];
+        /** Whether the last two TERMS that were looked at are ALIKE. */
+        boolean areLastAlike;
 
         Paths(Told told) {
             this.told = told;
@@ -1038,14 +1040,6 @@ public final class Downhill {
             }
         }
 
-        boolean areAlike(Term s, Term t) {
-            if (!fits(s) || !fits(t)) {
-                return false;
-            }
-            fillAlike(s, t);
-            return alike[0][0] != 0;
-        }
-
         private static boolean fits(Term term) {
             return term.size > 0 && term.size <= KEPT_SIZE;
         }
@@ -1054,13 +1048,14 @@ public final class Downhill {
         private void fillAlike(Term s, Term t) {
             for (int i = s.size - 1; i >= 0; i--) {
                 for (int j = t.size - 1; j >= 0; j--) {
-                    alike[i][j] = s.letter[i] == t.letter[j] && areKidsAlike(s, i, t, j) ? EVERY_ROW : 0;
+                    boolean isSame = s.letter[i] == t.letter[j];
+                    alike[i][j] = isSame && (s.isVariable(i) || areKidsAlike(s, i, t, j)) ? EVERY_ROW : 0;
                 }
             }
         }
 
         private boolean areKidsAlike(Term s, int i, Term t, int j) {
-            int kids = Term.kidsBy(told.arity, s.letter[i]);
+            int kids = told.arity[s.letter[i]];
             if (kids == 0) {
                 return true;
             }
@@ -1088,6 +1083,7 @@ public final class Downhill {
          * EVERY_ROW or none, as it is by the ROW that is told.
          */
         long rowsGreater(Term s, Term t, int half) {
+            areLastAlike = false;
             if (!fits(s) || !fits(t)) {
                 return 0;
             }
@@ -1097,6 +1093,7 @@ public final class Downhill {
                     greater[i][j] = s.isVariable(i) ? 0 : rowsOfPart(s, i, t, j, half);
                 }
             }
+            areLastAlike = alike[0][0] != 0;
             return greater[0][0];
         }
 
@@ -1265,7 +1262,7 @@ public final class Downhill {
         /** Behind this place there is nothing, so that short values are quickly worked on. */
         int top;
 
-        private void clear() {
+        void clear() {
             Arrays.fill(often, 0, top, 0);
             top = 0;
         }
@@ -1276,9 +1273,9 @@ public final class Downhill {
             top = other.top;
         }
 
+        /** Of a VARIABLE; there is nothing in it ahead of that. */
         void setOwn(int letter, int base) {
             int variable = letter - SIGNS;
-            clear();
             if (variable >= 0 && variable < OWN_STEP.length) {
                 often[0] = base;
                 often[OWN_STEP[variable]] = 1;
@@ -1286,9 +1283,8 @@ public final class Downhill {
             }
         }
 
-        /** k + p * u + q * v + r * u * v; u and v have nothing, if there is no such TERM. */
+        /** k + p * u + q * v + r * u * v; u and v have nothing, if there is no such TERM, nor has this ahead of that. */
         void setBy(int k, int p, int q, int r, Value u, Value v) {
-            clear();
             top = Math.max(1, Math.max(u.top, v.top));
             for (int n = 0; n < top; n++) {
                 often[n] = p * u.often[n] + q * v.often[n];
@@ -1343,16 +1339,14 @@ public final class Downhill {
             }
         }
 
-        boolean areAlike(Term s, Term t) {
+        /** GREATER or ALIKE, as s is to t, otherwise APART. */
+        int oneWay(Term s, Term t) {
             fill(one, s);
             fill(other, t);
-            return one.isSame(other);
-        }
-
-        boolean isGreater(Term s, Term t) {
-            fill(one, s);
-            fill(other, t);
-            return one.isGreater(other);
+            if (one.isGreater(other)) {
+                return GREATER;
+            }
+            return one.isSame(other) ? ALIKE : APART;
         }
 
         /** The value with all own numbers 0. */
@@ -1372,6 +1366,7 @@ public final class Downhill {
                     return;
                 }
                 Value made = open[opened];
+                made.clear();
                 if (letter >= SIGNS) {
                     made.setOwn(letter, told.base);
                 } else {
@@ -1409,33 +1404,26 @@ public final class Downhill {
             }
         }
 
-        /** Of an ORDER that is GOOD. */
-        private boolean isGreater(int order, Term s, Term t) {
-            if (order == PATHS) {
-                return paths.rowsGreater(s, t, NOW) != 0;
+        /** GREATER or ALIKE, as s is to t, otherwise APART; by an ORDER that is GOOD. */
+        private int oneWay(int order, Term s, Term t) {
+            if (order == SUMS) {
+                return values.oneWay(s, t);
             }
-            return order == WEIGHTS ? isHeavier(s, t) : values.isGreater(s, t);
-        }
-
-        /** Of an ORDER that is GOOD. */
-        private boolean areAlike(int order, Term s, Term t) {
-            if (order == PATHS) {
-                return paths.areAlike(s, t);
+            if (order == PATHS ? paths.rowsGreater(s, t, NOW) != 0 : isHeavier(s, t)) {
+                return GREATER;
             }
-            return order == WEIGHTS ? s.isSamePart(0, t, 0) : values.areAlike(s, t);
+            return (order == PATHS ? paths.areLastAlike : s.isSamePart(0, t, 0)) ? ALIKE : APART;
         }
 
         int stand(int order, Term s, Term t) {
             if (!told.isOrderGood(order)) {
                 return APART;
             }
-            if (areAlike(order, s, t)) {
-                return ALIKE;
+            int oneWay = oneWay(order, s, t);
+            if (oneWay != APART) {
+                return oneWay;
             }
-            if (isGreater(order, s, t)) {
-                return GREATER;
-            }
-            return isGreater(order, t, s) ? LESS : APART;
+            return oneWay(order, t, s) == GREATER ? LESS : APART;
         }
 
         /** Goes from TERM to TERM: the first place at which they are not the same decides. */
@@ -1494,8 +1482,9 @@ public final class Downhill {
                 alike[i] = 0;
                 for (int j = 0; j < SLOTS && isGood; j++) {
                     if (told.slot[i].size > 0 && told.slot[j].size > 0) {
-                        below[i] |= isGreater(order, told.slot[i], told.slot[j]) ? 1 << j : 0;
-                        alike[i] |= areAlike(order, told.slot[i], told.slot[j]) ? 1 << j : 0;
+                        int oneWay = oneWay(order, told.slot[i], told.slot[j]);
+                        below[i] |= oneWay == GREATER ? 1 << j : 0;
+                        alike[i] |= oneWay == ALIKE ? 1 << j : 0;
                     }
                 }
             }
@@ -1547,7 +1536,7 @@ public final class Downhill {
                 return rules;
             }
             for (int i = 0; i < told.rules && i < RULES; i++) {
-                if (isGreater(order, told.left[i], told.right[i])) {
+                if (oneWay(order, told.left[i], told.right[i]) == GREATER) {
                     rules |= 1 << i;
                 }
             }
@@ -1557,7 +1546,7 @@ public final class Downhill {
         boolean hasBounds() {
             boolean isSo = told.isOrderGood(SUMS);
             for (int i = 0; i < told.rules && i < RULES; i++) {
-                isSo = isSo && values.isGreater(told.left[i], told.right[i]);
+                isSo = isSo && values.oneWay(told.left[i], told.right[i]) == GREATER;
             }
             return isSo;
         }
