@@ -479,7 +479,7 @@ public final class Downhill {
     /** StringBuilder is to be used with int alone, and a BOUND may be greater. */
     private static void tellLong(StringBuilder text, long number) {
         long unit = 1;
-        for (int digits = 1; digits < 18 && number / unit >= 10; digits++) {
+        for (int digits = 1; digits < 18 && unit <= number / 10; digits++) {
             unit *= 10;
         }
         for (; unit > 0; unit /= 10) {
@@ -1025,8 +1025,9 @@ public final class Downhill {
             int rest = nth;
             int free = (1 << SIGNS) - 1;
             for (int i = 0; i < SIGNS && i < row.length; i++) {
-                int skip = rest / ROWS_BY_BEGINNING[i];
-                rest -= skip * ROWS_BY_BEGINNING[i];
+                int rows = Math.max(ROWS_BY_BEGINNING[i], 1);
+                int skip = rest / rows;
+                rest -= skip * rows;
                 for (int sign = 0; sign < SIGNS; sign++) {
                     if ((free >> sign & 1) != 0) {
                         if (skip == 0) {
