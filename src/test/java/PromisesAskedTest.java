@@ -589,6 +589,8 @@ public final class PromisesAskedTest {
         CHECK.is("38 none", Check.ruled("bx>ex").loop(2), -1);
         CHECK.is("38 one sooner than two", Check.ruled("a>d", "bx>bx", "d>a").loop(1), 1);
         CHECK.is("38 two is enough for the first", Check.ruled("a>d", "bx>bx", "d>a").loop(2), 0);
+        CHECK.is("38 the first rule is the second step", Check.ruled("d>a", "ba>bd").loop(2), 1);
+        CHECK.is("38 which is not in one", Check.ruled("d>a", "ba>bd").loop(1), -1);
         CHECK.refused("38 none at most", hill, Check.ARGUMENT, () -> hill.loop(0));
         CHECK.refused("38 too many", hill, Check.ARGUMENT, () -> hill.loop(3));
     }

@@ -530,6 +530,12 @@ public final class PromisesToldTest {
         undoOf("power", hill, () -> hill.power(2, 1));
         undoOf("make", hill, () -> hill.make(1, 0, 1, 1));
         undoOf("fall", hill, () -> hill.fall(1, 4));
+        hill.unrule();
+        hill.rule(5, 5);
+        hill.undo();
+        CHECK.is("18 the rule is not back yet", hill.house(1), 0);
+        hill.undo();
+        CHECK.is("18 the rule is as it was", hill.side(0, true) + ">" + hill.side(0, false), "cbxy>bcxy");
     }
 
     private static void stepsBack() {
