@@ -1269,7 +1269,7 @@ public final class Downhill {
         }
 
         void copyFrom(Value other) {
-            clear();
+            Arrays.fill(often, 0, top, 0);
             System.arraycopy(other.often, 0, often, 0, other.top);
             top = other.top;
         }
