@@ -1,3 +1,6 @@
+import java.util.ArrayList;
+import java.util.List;
+
 /** Counts the answers that are not due, and makes hills with little writing. */
 final class Check {
     interface Call {
@@ -75,11 +78,75 @@ final class Check {
         }
     }
 
+    /** Types letters alone, five with the first call and six with each one behind it. */
     static int type(Downhill hill, String letters) {
-        int length = hill.say(9, -1, -1, -1, -1, -1);
-        for (char letter : letters.toCharArray()) {
-            length = hill.say("abcdexyz".indexOf(letter), -1, -1, -1, -1, -1);
+        int length = -1;
+        for (int from = -1; from < letters.length(); from += 6) {
+            int[] said = {from < 0 ? 9 : letterAt(letters, from), -1, -1, -1, -1, -1};
+            for (int i = 1; i < 6; i++) {
+                said[i] = letterAt(letters, from + i);
+            }
+            length = hill.say(said[0], said[1], said[2], said[3], said[4], said[5]);
         }
         return length;
+    }
+
+    private static int letterAt(String letters, int at) {
+        return at < letters.length() ? "abcdexyz".indexOf(letters.charAt(at)) : -1;
+    }
+
+    /** The checksum once more, from the answers of the face. */
+    static long digestOf(Downhill hill) {
+        List<Long> v = new ArrayList<>();
+        for (int what = 0; what <= 8; what++) {
+            v.add((long) hill.house(what));
+        }
+        for (int sign = 0; sign < 5; sign++) {
+            for (int what = 0; what <= 8; what++) {
+                v.add((long) hill.ofSign(sign, what));
+            }
+        }
+        for (int slot = 0; slot < 6; slot++) {
+            v.add((long) hill.term(slot).length());
+        }
+        for (int rule = 0; rule < hill.house(1); rule++) {
+            v.add((long) hill.side(rule, true).length());
+            v.add((long) hill.side(rule, false).length());
+        }
+        for (int order = 0; order < 3; order++) {
+            v.add((long) hill.down(order));
+            v.add(hill.isGood(order) ? 1L : 0L);
+            if (!hill.term(0).isEmpty() && !hill.term(1).isEmpty()) {
+                v.add((long) hill.compare(order, 0, 1));
+            }
+            v.add((long) hill.heaps(order, 7, 56));
+        }
+        v.add((long) hill.row().length());
+        v.add((long) hill.stuck());
+        for (int nth = 0; nth < hill.house(2); nth++) {
+            v.add((long) hill.pair(nth).length());
+        }
+        for (int nth = 0; nth < hill.house(3); nth++) {
+            v.add((long) hill.ring(nth).length());
+            v.add(hill.ends(nth) ? 1L : 0L);
+        }
+        for (int slot = 0; slot < 6; slot++) {
+            if (!hill.term(slot).isEmpty()) {
+                v.add((long) hill.longest(slot));
+                v.add((long) hill.bound(slot).length());
+            }
+        }
+        v.add((long) hill.loop(2));
+        for (int cell = 0; cell < 6; cell++) {
+            v.add((long) hill.tell(cell).length());
+            v.add((long) hill.hold(cell, 0));
+        }
+        v.add((long) hill.fault());
+        v.add(hill.isSound() ? 1L : 0L);
+        long d = 6163;
+        for (long one : v) {
+            d = d * 31 + one;
+        }
+        return d;
     }
 }

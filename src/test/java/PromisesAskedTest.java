@@ -773,81 +773,30 @@ public final class PromisesAskedTest {
         return hill.isSound();
     }
 
-    private static void digest() {
-        Downhill hill = new Downhill();
-        CHECK.is("45 new", hill.digest(), digestOf(hill));
+    private static Downhill fullHill() {
         Downhill full = Check.ruled("cbxy>bcxy", "cax>bx", "bex>ebx");
-        CHECK.is("45 rules", full.digest(), digestOf(full));
         Check.keep(full, 0, "cbbax");
-        CHECK.is("45 the first slot alone", full.digest(), digestOf(full));
         Check.keep(full, 1, "cxbx");
         full.knock();
         full.number(0, 5);
         full.power(1, 0);
         full.power(3, 1);
         full.sum(2, 1, 2, 1, 0);
-        CHECK.is("45 all", full.digest(), digestOf(full));
-        full.unrule();
-        full.undo();
-        full.base(3);
-        CHECK.is("45 not good", full.digest(), digestOf(full));
-        full.base(0);
-        full.unrule();
-        CHECK.is("45 with bounds", full.digest(), digestOf(full));
+        return full;
     }
 
-    /** The checksum once more, from the answers of the face. */
-    private static long digestOf(Downhill hill) {
-        List<Long> v = new ArrayList<>();
-        for (int what = 0; what <= 8; what++) {
-            v.add((long) hill.house(what));
-        }
-        for (int sign = 0; sign < 5; sign++) {
-            for (int what = 0; what <= 8; what++) {
-                v.add((long) hill.ofSign(sign, what));
-            }
-        }
-        for (int slot = 0; slot < 6; slot++) {
-            v.add((long) hill.term(slot).length());
-        }
-        for (int rule = 0; rule < hill.house(1); rule++) {
-            v.add((long) hill.side(rule, true).length());
-            v.add((long) hill.side(rule, false).length());
-        }
-        for (int order = 0; order < 3; order++) {
-            v.add((long) hill.down(order));
-            v.add(hill.isGood(order) ? 1L : 0L);
-            if (!hill.term(0).isEmpty() && !hill.term(1).isEmpty()) {
-                v.add((long) hill.compare(order, 0, 1));
-            }
-            v.add((long) hill.heaps(order, 7, 56));
-        }
-        v.add((long) hill.row().length());
-        v.add((long) hill.stuck());
-        for (int nth = 0; nth < hill.house(2); nth++) {
-            v.add((long) hill.pair(nth).length());
-        }
-        for (int nth = 0; nth < hill.house(3); nth++) {
-            v.add((long) hill.ring(nth).length());
-            v.add(hill.ends(nth) ? 1L : 0L);
-        }
-        for (int slot = 0; slot < 6; slot++) {
-            if (!hill.term(slot).isEmpty()) {
-                v.add((long) hill.longest(slot));
-                v.add((long) hill.bound(slot).length());
-            }
-        }
-        v.add((long) hill.loop(2));
-        for (int cell = 0; cell < 6; cell++) {
-            v.add((long) hill.tell(cell).length());
-            v.add((long) hill.hold(cell, 0));
-        }
-        v.add((long) hill.fault());
-        v.add(hill.isSound() ? 1L : 0L);
-        long d = 6163;
-        for (long one : v) {
-            d = d * 31 + one;
-        }
-        return d;
+    private static void digest() {
+        CHECK.is("45 new", new Downhill().digest(), Check.digestOf(new Downhill()));
+        Downhill rules = Check.ruled("cbxy>bcxy", "cax>bx", "bex>ebx");
+        CHECK.is("45 rules", rules.digest(), Check.digestOf(rules));
+        Check.keep(rules, 0, "cbbax");
+        CHECK.is("45 the first slot alone", rules.digest(), Check.digestOf(rules));
+        CHECK.is("45 all", fullHill().digest(), Check.digestOf(fullHill()));
+        Downhill full = fullHill();
+        full.base(3);
+        CHECK.is("45 not good", full.digest(), Check.digestOf(full));
+        full.base(0);
+        full.unrule();
+        CHECK.is("45 with bounds", full.digest(), Check.digestOf(full));
     }
 }

@@ -23,7 +23,6 @@ public final class PromisesToldTest {
         makeProduct();
         makeRefused();
         makeSpan();
-        makeSpan();
         fall();
         fallRefused();
         undo();
@@ -484,11 +483,12 @@ public final class PromisesToldTest {
         CHECK.refused("17 of 0", hill, Check.ELEMENT, () -> hill.fall(5, 0));
     }
 
-    private static void undoOf(String what, Downhill hill, Check.Call call) {
+    private static void undoOf(String what, Sentences.Asked call) {
+        Downhill hill = ruledHill();
         int steps = hill.house(7);
         long before = hill.digest();
         String texts = texts(hill);
-        call.answer();
+        call.of(hill);
         CHECK.is("18 one more by " + what, hill.house(7), steps + 1);
         CHECK.is("18 undo of " + what, hill.undo(), steps);
         CHECK.is("18 digest as ahead of " + what, hill.digest(), before);
@@ -506,7 +506,7 @@ public final class PromisesToldTest {
         return texts.append(places(hill)).toString();
     }
 
-    private static void undo() {
+    private static Downhill ruledHill() {
         Downhill hill = new Downhill();
         hill.say(2, 1, 5, 6, -1, -1);
         hill.keep(4);
@@ -514,22 +514,27 @@ public final class PromisesToldTest {
         hill.keep(5);
         hill.rule(4, 5);
         hill.power(1, 0);
-        undoOf("arity", hill, () -> hill.arity(3, 2));
-        undoOf("say", hill, () -> hill.say(9, 1, 3, 7, -1, 8));
-        undoOf("keep", hill, () -> hill.keep(3));
-        undoOf("put", hill, () -> hill.put(4, 5, 5, 0));
-        undoOf("cut", hill, () -> hill.cut(4, 1, 4));
-        undoOf("rule", hill, () -> hill.rule(4, 4));
-        undoOf("unrule", hill, hill::unrule);
-        undoOf("rank", hill, () -> hill.rank(2, 0));
-        undoOf("way", hill, () -> hill.way(2, 2));
-        undoOf("weight", hill, () -> hill.weight(5, 9));
-        undoOf("sum", hill, () -> hill.sum(2, 9, 8, 7, 6));
-        undoOf("base", hill, () -> hill.base(2));
-        undoOf("number", hill, () -> hill.number(1, 50));
-        undoOf("power", hill, () -> hill.power(2, 1));
-        undoOf("make", hill, () -> hill.make(1, 0, 1, 1));
-        undoOf("fall", hill, () -> hill.fall(1, 4));
+        return hill;
+    }
+
+    private static void undo() {
+        undoOf("arity", hill -> hill.arity(3, 2));
+        undoOf("say", hill -> hill.say(9, 1, 3, 7, -1, 8));
+        undoOf("keep", hill -> hill.keep(3));
+        undoOf("put", hill -> hill.put(4, 5, 5, 0));
+        undoOf("cut", hill -> hill.cut(4, 1, 4));
+        undoOf("rule", hill -> hill.rule(4, 4));
+        undoOf("unrule", Downhill::unrule);
+        undoOf("rank", hill -> hill.rank(2, 0));
+        undoOf("way", hill -> hill.way(2, 2));
+        undoOf("weight", hill -> hill.weight(5, 9));
+        undoOf("sum", hill -> hill.sum(2, 9, 8, 7, 6));
+        undoOf("base", hill -> hill.base(2));
+        undoOf("number", hill -> hill.number(1, 50));
+        undoOf("power", hill -> hill.power(2, 1));
+        undoOf("make", hill -> hill.make(1, 0, 1, 1));
+        undoOf("fall", hill -> hill.fall(1, 4));
+        Downhill hill = ruledHill();
         hill.unrule();
         hill.rule(5, 5);
         hill.undo();
