@@ -13,6 +13,22 @@ public final class EdgesOfAllTest {
         hill -> hill.number(5, 0), hill -> hill.power(3, 0), hill -> hill.power(0, 0), hill -> hill.make(2, 0, 0, 1),
         hill -> hill.make(0, 2, 0, 0), hill -> hill.make(1, 1, 1, 5), hill -> hill.fall(0, 2), hill -> hill.fall(1, 9)};
 
+    /** Rows of calls that a {@link #full} hill takes one behind the other. */
+    private static final Sentences.Asked[][] ROWS = {
+        {Downhill::unrule, hill -> hill.rule(0, 2), Downhill::unrule, hill -> hill.rule(3, 3), hill -> hill.rule(2, 1),
+            Downhill::unrule, Downhill::unrule, hill -> hill.rule(0, 0)},
+        {hill -> hill.rule(0, 2), hill -> hill.rule(3, 3), Downhill::unrule, Downhill::unrule, Downhill::unrule,
+            hill -> hill.rule(3, 3), hill -> hill.rule(0, 1), hill -> hill.rule(0, 0), Downhill::unrule},
+        {hill -> hill.put(0, 5, 3, 1), hill -> hill.cut(0, 2, 0), hill -> hill.keep(2), hill -> hill.say(9, 5, -1, -1, -1, -1),
+            hill -> hill.keep(0), hill -> hill.put(3, 5, 3, 3), hill -> hill.cut(1, 0, 5), hill -> hill.say(8, 7, 6, -1, -1, -1)},
+        {hill -> hill.rank(0, 4), hill -> hill.rank(1, 0), hill -> hill.way(2, 1), hill -> hill.weight(5, 3),
+            hill -> hill.sum(2, 9, 8, 7, 6), hill -> hill.base(2), hill -> hill.arity(3, 2), hill -> hill.way(2, 2)},
+        {hill -> hill.number(0, 3), hill -> hill.power(1, 0), hill -> hill.power(0, 1), hill -> hill.make(2, 0, 0, 1),
+            hill -> hill.make(0, 2, 2, 1), hill -> hill.fall(2, 3), hill -> hill.number(2, 0), hill -> hill.fall(0, 9)},
+        {hill -> hill.sum(0, 1, 2, 3, 4), hill -> hill.sum(0, 4, 3, 2, 1), hill -> hill.rank(4, 0), hill -> hill.rank(4, 0),
+            hill -> hill.weight(0, 9), hill -> hill.cut(0, 1, 0), Downhill::unrule, hill -> hill.number(5, 99),
+            hill -> hill.power(5, 5), hill -> hill.base(1), hill -> hill.say(9, -1, -1, -1, -1, -1), hill -> hill.way(4, 2)}};
+
     /** Each call that tells nothing. */
     private static final Sentences.Asked[] ASKED = {
         Downhill::knock, hill -> hill.term(0), hill -> hill.part(0, 1), Downhill::typed, Downhill::fault,
@@ -207,6 +223,29 @@ public final class EdgesOfAllTest {
             doc.is("none is left", Sentences.answer(hill, Downhill::undo), Check.ELEMENT.getName());
         }
         someUndoneInBetween();
+        rowsOfCalls();
+    }
+
+    /** Each row is undone call by call: what a call wrote over that another one had taken away comes back, too. */
+    private void rowsOfCalls() {
+        doc.section(6, "all is as ahead of that call");
+        for (Sentences.Asked[] row : ROWS) {
+            for (int back = 1; back <= Math.min(row.length, 8); back++) {
+                Downhill hill = after(row, row.length);
+                for (int i = 0; i < back; i++) {
+                    hill.undo();
+                }
+                doc.is(back + " undone", Sentences.told(hill), Sentences.told(after(row, row.length - back)));
+            }
+        }
+    }
+
+    private static Downhill after(Sentences.Asked[] row, int calls) {
+        Downhill hill = full();
+        for (int i = 0; i < calls; i++) {
+            row[i].of(hill);
+        }
+        return hill;
     }
 
     private void someUndoneInBetween() {
@@ -395,7 +434,8 @@ public final class EdgesOfAllTest {
         }
         doc.promise(45, "PAIR by PAIR the length of pair(); RING by RING the length of ring(), 1 if ends(), otherwise 0; SLOT by SLOT "
                 + "that has a TERM longest(), the length of bound()");
-        String[][] rules = {{"bx>x"}, {"bx>bx"}, {"bbx>bx", "ex>ex"}, {"cbxby>cxcbxy"}, {"bx>ex", "ex>x"}, {"a>a", "d>d"}};
+        String[][] rules = {{"bx>x"}, {"bx>bx"}, {"bbx>bx", "ex>ex"}, {"cbxby>cxcbxy"}, {"bx>ex", "ex>x"}, {"a>a", "d>d"},
+            {"a>d", "d>a"}};
         for (String[] told : rules) {
             doc.is("rules", Check.ruled(told).digest(), Check.digestOf(Check.ruled(told)));
         }

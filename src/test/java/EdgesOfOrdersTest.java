@@ -499,6 +499,15 @@ public final class EdgesOfOrdersTest {
         stand(product, 2, "bcxcxcxcxcxx", "cxcxcxcxcxx", 1);
         stand(product, 2, "bczczczczczz", "czczczczczz", 1);
         stand(product, 2, "bczczczczczy", "cyczczczczz", 1);
+        Setting six = hill -> {
+            hill.sum(2, 0, 1, 1, 1);
+            hill.sum(4, 1, 9, 0, 0);
+        };
+        stand(six, 2, "eczczczczz", "czczczczczz", 2);
+        stand(six, 2, "ecxcxcxcxx", "cxcxcxcxcxx", 2);
+        stand(six, 2, "cyecxcxcxcxx", "cxcxcxcxcxx", 2);
+        stand(six, 2, "czecycycycyy", "cycycycycyy", 2);
+        stand(six, 2, "ecxcycxcycxy", "cxcycxcycxy", 1);
         doc.section(2, "ALIKE: the same sum.");
         stand(AS_NEW, 2, "a", "d", 0);
         stand(AS_NEW, 2, "cxy", "cyx", 0);

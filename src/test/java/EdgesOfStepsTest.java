@@ -1,4 +1,6 @@
 import java.io.IOException;
+import java.util.ArrayList;
+import java.util.List;
 
 /** The edges of pairs, rings and steps: sections 3 and 4, promises 32 to 38. */
 public final class EdgesOfStepsTest {
@@ -15,6 +17,7 @@ public final class EdgesOfStepsTest {
         test.pairs();
         test.leads();
         test.rings();
+        test.ringsOfEachSign();
         test.ringsEnd();
         test.ringsLeft();
         test.choices();
@@ -131,6 +134,61 @@ public final class EdgesOfStepsTest {
         doc.is("two that share a sign", ringsOf(unary("ax>bax", "bx>ax", "ax>ax")), "[0 1 2 3]");
         doc.is("the same pair twice", ringsOf(unary("ax>ax", "ax>ax")), "[0 1]");
         doc.is("no pairs", ringsOf(new Downhill()), "");
+    }
+
+    /** RULES with other SIGNS in the place of "a" to "e", which have the ARITIES of those. */
+    private static Downhill renamed(String signs, int[] arities, String... rules) {
+        Downhill hill = new Downhill();
+        for (int sign = 0; sign < 5; sign++) {
+            hill.arity("abcde".indexOf(signs.charAt(sign)), arities[sign]);
+        }
+        for (String rule : rules) {
+            StringBuilder made = new StringBuilder();
+            for (char letter : rule.toCharArray()) {
+                int sign = "abcde".indexOf(letter);
+                made.append(sign < 0 ? letter : signs.charAt(sign));
+            }
+            Check.rule(hill, made.toString());
+        }
+        return hill;
+    }
+
+    private static List<String> allRows(String signs) {
+        List<String> rows = new ArrayList<>();
+        if (signs.isEmpty()) {
+            rows.add("");
+        }
+        for (char first : signs.toCharArray()) {
+            for (String rest : allRows(signs.replace("" + first, ""))) {
+                rows.add(first + rest);
+            }
+        }
+        return rows;
+    }
+
+    private void ringsOfEachSign() {
+        doc.section(3, "some PAIRS each of which leads, perhaps over others of them, to each of them (also to itself)");
+        int[] one = {1, 1, 1, 1, 1};
+        int[] two = {2, 2, 2, 2, 2};
+        for (String signs : allRows("abcde")) {
+            doc.is(signs + " round", ringsOf(renamed(signs, one, "ax>bx", "bx>cx", "cx>dx", "dx>ex", "ex>ax")), "[0 1 2 3 4]");
+            doc.is(signs + " not round", ringsOf(renamed(signs, one, "ax>bx", "bx>cx", "cx>dx", "dx>ex", "ex>x")), "");
+            doc.is(signs + " in two", ringsOf(renamed(signs, one, "ax>bx", "cx>dx", "bx>ax", "dx>ex", "ex>cx")), "[0 2][1 3 4]");
+            doc.is(signs + " behind the first one", ringsOf(renamed(signs, one, "ax>bx", "bx>cx", "cx>dx", "dx>ex", "ex>bx")),
+                    "[1 2 3 4]");
+        }
+        doc.section(3, "A RING ENDS, if for each SIGN with which its PAIRS begin one of its places");
+        for (String signs : allRows("abcde")) {
+            doc.is(signs + ", the last places of five", renamed(signs, two, "axayz>bxz", "bxy>cxy", "cxy>dxy", "dxy>exy",
+                    "exy>axy").ends(0), true);
+            doc.is(signs + ", the first places of five", renamed(signs, two, "aaxyz>bxz", "bxy>cxy", "cxy>dxy", "dxy>exy",
+                    "exy>axy").ends(0), true);
+            doc.is(signs + ", no places of five", renamed(signs, two, "axayz>bzx", "bxy>cxy", "cxy>dxy", "dxy>exy",
+                    "exy>axy").ends(0), false);
+            doc.is(signs + ", no ring is left", renamed(signs, one, "aax>bx", "bx>ax", "bx>cx", "ccx>bx").ends(0), true);
+            doc.is(signs + ", one is left", renamed(signs, one, "aax>bx", "bx>ax", "bx>cx", "cx>bx").ends(0), false);
+            doc.is(signs + ", another one is left", renamed(signs, one, "aax>bx", "bx>ax", "ax>bx").ends(0), false);
+        }
     }
 
     private static boolean isEnding(String... rules) {

@@ -268,6 +268,17 @@ public final class EdgesOfTermsTest {
         Downhill hill = typing("bbbbbbbbbbbb");
         Sentences.answer(hill, it -> it.say(8, 8, 0, 0, 0, 0));
         doc.is("what stays", hill.typed(), "bbbbbbbbbbbb");
+        doc.is("what comes behind it", hill.say(8, 8, 5, -1, -1, -1), 11);
+        doc.is("is typed behind it", hill.typed(), "bbbbbbbbbbx");
+        hill.undo();
+        doc.is("and behind what is undone", hill.say(8, -1, -1, -1, -1, -1), 11);
+        Check.keep(hill, 0, "cxy");
+        hill.say(8, 0, -1, -1, -1, -1);
+        hill.cut(0, 1, 1);
+        doc.is("cut", hill.say(8, 3, -1, -1, -1, -1), 3);
+        hill.put(0, 5, 0, 2);
+        doc.is("put", hill.say(-1, 4, -1, -1, -1, -1), 4);
+        doc.is("behind both", hill.typed(), "cxde");
     }
 
     private void keep() {
@@ -345,6 +356,10 @@ public final class EdgesOfTermsTest {
         doc.is("a variable alone", hill.put(2, 5, 3, 5), 1);
         doc.is("a", hill.term(5), "a");
         doc.is("what is put in may have none", hill.put(3, 5, 0, 4), 1);
+        Downhill alone = Check.hill("x", "cabx", "bbbbbbbbbbbx");
+        doc.is("4 for a variable alone", alone.put(0, 5, 1, 3), 4);
+        doc.is("12 for a variable alone", alone.put(0, 5, 2, 4), 12);
+        doc.is(alone.term(3) + " " + alone.term(4), "cabx bbbbbbbbbbbx");
     }
 
     private void cut() {
@@ -443,6 +458,36 @@ public final class EdgesOfTermsTest {
         }
         doc.is("undone", hill.undo(), 7);
         doc.is("the first one is back", hill.side(0, true) + hill.side(0, false), "bxx");
+        doc.promise(8, "The last RULE goes.");
+        for (String gone : new String[] {"bx>x", "bx>bx", "bx>ebx", "ex>bx", "a>ba", "d>a", "cxy>bx", "bbx>bx"}) {
+            for (String[] rules : new String[][] {{}, {"bx>x"}, {"bx>ex"}, {"a>d", "bx>bbx"}, {"ex>bx", "cxy>cyx", "d>ea", "a>d"}}) {
+                doc.is(gone + " behind " + rules.length, answers(gone, rules), answers("", rules));
+            }
+        }
+    }
+
+    /** What one asks of RULES, once another one came and went. */
+    private static String answers(String gone, String... rules) {
+        Downhill hill = Check.ruled(rules);
+        if (!gone.isEmpty()) {
+            Check.rule(hill, gone);
+            hill.unrule();
+        }
+        Check.keep(hill, 5, "cebad");
+        StringBuilder answers = new StringBuilder(hill.row()).append(' ').append(hill.stuck());
+        for (int order = 0; order < 3; order++) {
+            answers.append(' ').append(hill.down(order));
+        }
+        for (int nth = 0; nth < 12; nth++) {
+            answers.append(' ').append(hill.pair(nth)).append(' ').append(hill.ring(nth)).append(' ').append(hill.ends(nth));
+            answers.append(' ').append(hill.reduct(5, nth));
+        }
+        answers.append(' ').append(hill.longest(5)).append(' ').append(hill.bound(5));
+        answers.append(' ').append(hill.loop(1)).append(' ').append(hill.loop(2));
+        for (int sign = 0; sign < 5; sign++) {
+            answers.append(' ').append(hill.ofSign(sign, 8));
+        }
+        return answers.toString();
     }
 
     // ---- promises 20 to 24

@@ -90,6 +90,19 @@ final class Sentences {
             is(what + " goes back " + steps, some(hill), some(twin));
         }
         is(what + " at first", all(hill), all(twin));
+        is(what + " goes on", goneOn(hill), goneOn(twin));
+    }
+
+    /** What the next calls answer. */
+    private static String goneOn(Downhill hill) {
+        StringBuilder answers = new StringBuilder();
+        Asked[] calls = {it -> it.say(8, 7, -1, -1, -1, -1), Downhill::typed, it -> it.keep(0), it -> it.cut(0, 0, 1),
+            it -> it.rule(0, 0), it -> it.number(0, 2), it -> it.fall(1, 1), it -> it.make(1, 1, 0, 1), Downhill::undo,
+            Downhill::knock};
+        for (Asked call : calls) {
+            answers.append(answer(hill, call)).append(' ');
+        }
+        return answers.toString();
     }
 
     static String answer(Downhill hill, Asked call) {
