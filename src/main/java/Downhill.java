@@ -1709,8 +1709,9 @@ public final class Downhill {
                 reach[sign] = 1 << sign;
             }
             for (int pair = 0; pair < count; pair++) {
-                if (has(left, pair)) {
-                    reach[begin(pair)] |= 1 << goal(pair);
+                int sign = begin(pair);
+                if (has(left, pair) && sign >= 0 && sign < SIGNS) {
+                    reach[sign] |= 1 << goal(pair);
                 }
             }
             for (int over = 0; over < SIGNS; over++) {
@@ -1723,7 +1724,7 @@ public final class Downhill {
         }
 
         private boolean leads(int from, int to) {
-            return (reach[from] >> to & 1) != 0;
+            return from >= 0 && from < SIGNS && (reach[from] >> to & 1) != 0;
         }
 
         /**

@@ -277,6 +277,7 @@ public final class EdgesOfAllTest {
             hill.keep(0);
             return hill;
         }, Check.ELEMENT, Downhill::undo);
+        doc.promise(18, "Takes a STEP BACK.");
         doc.promise(18, "Returns how many are left.");
         for (int steps = 1; steps <= 8; steps++) {
             doc.is("of " + steps, full(steps).undo(), steps - 1);

@@ -312,6 +312,12 @@ public final class EdgesOfNumbersTest {
         doc.refused("ahead of the number below", Downhill::new, Check.INDEX, hill -> hill.number(-1, -1));
         doc.promise(14, "`IllegalArgumentException` if number is not 0 to 99");
         doc.takes(Downhill::new, 0, 99, Check.ARGUMENT, (hill, number) -> hill.number(5, number));
+        doc.promise(14, "A CELL has a whole number.");
+        for (int number = 0; number <= 99; number++) {
+            Downhill whole = new Downhill();
+            whole.number(3, number);
+            doc.is(whole.tell(3), "" + number);
+        }
         doc.promise(14, "Returns 0, if it had that already, otherwise 1.");
         Downhill hill = new Downhill();
         doc.is("0 of 0", hill.number(0, 0), 0);
@@ -338,6 +344,11 @@ public final class EdgesOfNumbersTest {
             doc.refused("40 and one more", towers(first, 40), Check.STATE, hill -> hill.power(5, 0));
             doc.refused("itself", towers(first, 40), Check.STATE, hill -> hill.power(0, 0));
         }
+        doc.promise(15, "A CELL has the NUMBER of one POWER alone, once.");
+        Downhill alone = one("w*2+1");
+        alone.number(4, 5);
+        alone.power(4, 0);
+        doc.is(alone.tell(4) + " " + alone.tell(0), "w^(w*2+1) w*2+1");
         doc.promise(15, "Returns its SPAN.");
         Downhill hill = new Downhill();
         doc.is("of 0", hill.power(0, 1), 1);
@@ -365,6 +376,14 @@ public final class EdgesOfNumbersTest {
         doc.takes(Downhill::new, 0, 2, Check.ARGUMENT, (hill, how) -> hill.make(0, how, 1, 2));
         doc.refused("ahead of the span", towers(1, 21, 20), Check.ARGUMENT, hill -> hill.make(2, 3, 0, 1));
         doc.refused("ahead of how often", EdgesOfNumbersTest::often, Check.ARGUMENT, hill -> hill.make(2, -1, 0, 1));
+        doc.promise(16, "0 SUM, 1 JOINED, 2 PRODUCT");
+        String[] hows = {"w*2", "w*2+1", "w^(2)"};
+        for (int how = 0; how < 3; how++) {
+            Downhill made = two("w+1", "w");
+            made.make(1, how, 4, 0);
+            doc.is("" + how, made.tell(1), hows[how]);
+        }
+        doc.promise(16, "A CELL has what comes of two NUMBERS.");
         doc.promise(16, "Returns its SPAN.");
         Downhill hill = two("w^(2)+w*2", "w+3");
         doc.is("to another cell", hill.make(1, 0, 4, 0), 5);
@@ -465,6 +484,10 @@ public final class EdgesOfNumbersTest {
             hill.fall(0, 3);
             return hill;
         }, Check.ELEMENT, hill -> hill.fall(0, 3));
+        doc.promise(17, "The NUMBER of a CELL FALLS.");
+        Downhill three = six.hill();
+        three.fall(3, 9);
+        doc.is("that cell alone", three.tell(2) + three.tell(3) + three.tell(4), "212");
         doc.promise(17, "Returns its SPAN then.");
         doc.is("0", one("1").fall(0, 9), 0);
         doc.is("1", one("2").fall(0, 9), 1);

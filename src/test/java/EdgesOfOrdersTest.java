@@ -568,6 +568,7 @@ public final class EdgesOfOrdersTest {
         doc.takes(Downhill::new, 0, 4, Check.INDEX, (hill, sign) -> hill.rank(sign, 2));
         doc.takes(Downhill::new, 0, 4, Check.INDEX, (hill, place) -> hill.rank(2, place));
         doc.refused("both", Downhill::new, Check.INDEX, hill -> hill.rank(5, -1));
+        doc.promise(9, "A SIGN goes to another place of the ROW.");
         doc.promise(9, "its place then, 0 the lowest; the others stay in their sequence");
         doc.promise(9, "Returns its place before.");
         for (int sign = 0; sign < 5; sign++) {
@@ -611,6 +612,13 @@ public final class EdgesOfOrdersTest {
             doc.takes(Downhill::new, 0, 9, Check.ARGUMENT, (hill, weight) -> hill.weight(told, weight));
         }
         doc.takes(Downhill::new, 1, 9, Check.ARGUMENT, (hill, weight) -> hill.weight(5, weight));
+        doc.promise(11, "a SIGN, or 5 for the VARIABLES");
+        Downhill variables = new Downhill();
+        variables.weight(5, 7);
+        doc.is("theirs", variables.house(5), 7);
+        for (int sign = 0; sign < 5; sign++) {
+            doc.is("not that of the sign " + sign, variables.ofSign(sign, 3), 1);
+        }
         doc.promise(11, "Returns that before.");
         for (int sign = 0; sign <= 5; sign++) {
             Downhill hill = new Downhill();
@@ -633,6 +641,15 @@ public final class EdgesOfOrdersTest {
         doc.takes(Downhill::new, 0, 9, Check.ARGUMENT, (hill, p) -> hill.sum(4, 5, p, 3, 4));
         doc.takes(Downhill::new, 0, 9, Check.ARGUMENT, (hill, q) -> hill.sum(4, 5, 2, q, 4));
         doc.takes(Downhill::new, 0, 9, Check.ARGUMENT, (hill, r) -> hill.sum(4, 5, 2, 3, r));
+        doc.promise(12, "Tells the numbers of a SIGN for SUMS.");
+        for (int sign = 0; sign < 5; sign++) {
+            Downhill hill = new Downhill();
+            hill.sum(sign, 6, 7, 8, 9);
+            for (int other = 0; other < 5; other++) {
+                doc.is(sign + ", " + other, "" + hill.ofSign(other, 4) + hill.ofSign(other, 5) + hill.ofSign(other, 6)
+                        + hill.ofSign(other, 7), other == sign ? "6789" : "1110");
+            }
+        }
         doc.promise(12, "Returns k before.");
         for (int sign = 0; sign < 5; sign++) {
             Downhill hill = new Downhill();

@@ -16,6 +16,7 @@ public final class EdgesOfTermsTest {
         test.steps();
         test.arityTakes();
         test.arityOfSignInUse();
+        test.sayLetters();
         test.sayTakes();
         test.sayTooMuch();
         test.keep();
@@ -227,6 +228,27 @@ public final class EdgesOfTermsTest {
         doc.is("in TYPED alone", typing("cba").arity(1, 0), 1);
     }
 
+    private void sayLetters() {
+        doc.promise(3, "0 to 7 a letter, 8: the last one goes (if there is one), 9: all go, NONE nothing");
+        String[] due = {"caba", "cabb", "cabc", "cabd", "cabe", "cabx", "caby", "cabz", "ca", ""};
+        for (int letter = -1; letter <= 9; letter++) {
+            Downhill hill = typing("cab");
+            Downhill none = new Downhill();
+            hill.say(letter, -1, -1, -1, -1, -1);
+            none.say(-1, -1, -1, -1, -1, letter);
+            doc.is("" + letter, hill.typed(), letter < 0 ? "cab" : due[letter]);
+            doc.is(letter + " of none", none.typed(), letter < 0 || letter > 7 ? "" : "" + "abcdexyz".charAt(letter));
+        }
+        doc.promise(3, "Types letters behind TYPED, one after the other.");
+        Downhill hill = typing("c");
+        hill.say(0, 1, 2, 3, 4, 5);
+        doc.is(hill.typed(), "cabcdex");
+        hill.say(6, 8, 7, 8, 8, 6);
+        doc.is("some go", hill.typed(), "cabcdey");
+        hill.say(6, 9, 7, -1, 8, 5);
+        doc.is("all go", hill.typed(), "x");
+    }
+
     private void sayTakes() {
         doc.promise(3, "`IllegalArgumentException` if one is not -1 to 9");
         for (int at = 0; at < 6; at++) {
@@ -289,6 +311,7 @@ public final class EdgesOfTermsTest {
         doc.promise(4, "Returns its SIZE;");
         doc.is("1", typing("z").keep(0), 1);
         doc.is("12", typing("bbbbbbbbbbbz").keep(0), 12);
+        doc.promise(4, "A SLOT has the TERM that is TYPED (TYPED stays).");
         Downhill hill = typing("cabx");
         hill.keep(3);
         doc.is("TYPED stays", hill.typed(), "cabx");
@@ -325,6 +348,12 @@ public final class EdgesOfTermsTest {
         doc.refused("by ahead of all", Downhill::new, Check.INDEX, hill -> hill.put(0, 8, -1, 0));
         doc.refused("to ahead of all", Downhill::new, Check.INDEX, hill -> hill.put(0, 8, 0, 6));
         doc.refused("to ahead of the size", () -> Check.hill("cxx", "bbbbbba"), Check.INDEX, hill -> hill.put(0, 5, 1, -1));
+        doc.promise(5, "a VARIABLE (5 to 7)");
+        for (int variable = 5; variable <= 7; variable++) {
+            Downhill hill = Check.hill("ccxyz", "ba");
+            hill.put(0, variable, 1, 2);
+            doc.is("" + variable, hill.term(2), "ccxyz".replace("" + "xyz".charAt(variable - 5), "ba"));
+        }
         doc.promise(5, "`IllegalArgumentException` if variable is none");
         doc.takes(six, 5, 7, Check.ARGUMENT, (hill, variable) -> hill.put(0, variable, 1, 2));
         doc.refused("ahead of no term", Downhill::new, Check.ARGUMENT, hill -> hill.put(0, 4, 0, 0));
@@ -347,6 +376,7 @@ public final class EdgesOfTermsTest {
         doc.refused("of six, 67", () -> Check.hill("cxcxcxcxcxx", "bbbbbbbbbbba"), Check.STATE, hill -> hill.put(0, 5, 1, 1));
         doc.is("12 without the variable", Check.hill("bbbbbbbbbbbx", "bbbbbbbbbbba").put(0, 6, 1, 2), 12);
         doc.is("12 by a term of one letter", Check.hill("bbbbbbbbbbbx", "z").put(0, 5, 1, 2), 12);
+        doc.promise(5, "A SLOT has a TERM in which one is put in for a VARIABLE.");
         doc.promise(5, "Returns its SIZE.");
         Downhill hill = few();
         doc.is(hill.put(0, 6, 1, 0), 5);
@@ -382,6 +412,12 @@ public final class EdgesOfTermsTest {
             hill.cut(0, 2, 0);
             return hill;
         }, Check.INDEX, hill -> hill.cut(0, 2, 1));
+        doc.promise(6, "A SLOT has a PART of a TERM.");
+        Downhill hill = Check.hill("ccaxby", "x");
+        hill.cut(0, 4, 1);
+        doc.is("in another slot", hill.term(1) + " " + hill.term(0), "by ccaxby");
+        hill.cut(0, 1, 0);
+        doc.is("in its own", hill.term(1) + " " + hill.term(0), "by cax");
         doc.promise(6, "Returns its SIZE.");
         int[] sizes = {6, 3, 1, 1, 2, 1};
         for (int place = 0; place < 6; place++) {
@@ -435,6 +471,7 @@ public final class EdgesOfTermsTest {
         again.unrule();
         doc.is("one less, then the fifth again", again.rule(2, 3), 4);
         doc.is("is the new one", again.side(4, true) + ">" + again.side(4, false), "ey>a");
+        doc.promise(7, "A RULE comes.");
         doc.promise(7, "Returns its number.");
         Downhill hill = Check.hill("bx", "x");
         for (int number = 0; number < 5; number++) {
@@ -535,6 +572,8 @@ public final class EdgesOfTermsTest {
             hill.unrule();
             return hill;
         }, Check.INDEX, hill -> hill.side(1, true));
+        doc.promise(24, "whether its left TERM, otherwise the right one");
+        doc.is(Check.ruled("bx>x").side(0, true) + " " + Check.ruled("bx>x").side(0, false), "bx x");
         doc.promise(24, "Returns that.");
         Downhill hill = Check.ruled("bx>x", "cxcxcxcxcxby>cxcxcxcxcxby");
         doc.is("the shortest right one", hill.side(0, false), "x");

@@ -8,7 +8,7 @@ import java.util.TreeMap;
 
 /**
  * Checks that stand behind the words of the document which they are about. At the end each sentence
- * of the sections, and each "Returns" and "Throws" of the promises, must have had such words.
+ * of the sections, and each line of the promises that says more than a kind, must have had such words.
  */
 final class Sentences {
     interface Maker {
@@ -179,12 +179,21 @@ final class Sentences {
         }
         for (int promise : promises) {
             for (String line : lines.getOrDefault(promise, List.of())) {
-                if (line.startsWith("Returns ") || line.startsWith("Throws ")) {
+                if (saysMore(line)) {
                     mustBeQuoted(promise, line);
                 }
             }
         }
         check.end(name);
+    }
+
+    /** Neither a signature nor a heading, nor an argument of which the line tells but the kind. */
+    private static boolean saysMore(String line) {
+        if (line.startsWith("- ")) {
+            return line.matches(".*[0-9,].*");
+        }
+        boolean isAnswer = line.startsWith("Returns ") || line.startsWith("Throws ");
+        return isAnswer || !line.startsWith("`") && !line.startsWith("----") && line.split(" ").length > 3;
     }
 
     private void mustBeQuoted(int heading, String sentence) {
