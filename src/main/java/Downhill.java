@@ -5,6 +5,7 @@ import java.util.NoSuchElementException;
 public final class Downhill {
     private static final int NONE = -1;
     private static final int MANY = -5;
+    private static final int GREATEST = 2147483647;
 
     private static final int SIGNS = 5;
     private static final int VARIABLES = 3;
@@ -60,7 +61,7 @@ public final class Downhill {
     private static final int OFTEN_MOST = 9999;
     private static final int FALLS_MOST = 300;
     /** A NUMBER is a row of marks: for each POWER this one, the marks of its height, and how often. */
-    private static final int OPEN = Integer.MAX_VALUE;
+    private static final int OPEN = GREATEST;
     private static final int MARKS_MOST = 2 * SPAN_MOST;
     /** A PRODUCT has at most 40 * 41 + 80 POWERS, what a NUMBER FALLS to at most 40 * 40. */
     private static final int MARKS_ROOM = 4096;
@@ -426,7 +427,7 @@ public final class Downhill {
     // ---- what is asked of pairs and steps
 
     public String pair(int nth) throws IllegalArgumentException {
-        mustBeWithin(nth, 0, Integer.MAX_VALUE);
+        mustBeWithin(nth, 0, GREATEST);
         pairs.find();
         text.setLength(0);
         pairs.tellTo(text, nth);
@@ -434,7 +435,7 @@ public final class Downhill {
     }
 
     public String ring(int nth) throws IllegalArgumentException {
-        mustBeWithin(nth, 0, Integer.MAX_VALUE);
+        mustBeWithin(nth, 0, GREATEST);
         pairs.find();
         text.setLength(0);
         pairs.tellRingTo(text, pairs.ringAt(nth));
@@ -442,7 +443,7 @@ public final class Downhill {
     }
 
     public boolean ends(int nth) throws IllegalArgumentException {
-        mustBeWithin(nth, 0, Integer.MAX_VALUE);
+        mustBeWithin(nth, 0, GREATEST);
         pairs.find();
         return pairs.isEnding(pairs.ringAt(nth));
     }
@@ -450,7 +451,7 @@ public final class Downhill {
     public String reduct(int slot, int nth)
             throws IndexOutOfBoundsException, IllegalArgumentException, NoSuchElementException {
         mustBeIndex(slot, SLOTS);
-        mustBeWithin(nth, 0, Integer.MAX_VALUE);
+        mustBeWithin(nth, 0, GREATEST);
         walks.findReduct(termIn(slot), nth, reduced);
         return textOf(reduced);
     }

@@ -594,6 +594,31 @@ public final class EdgesOfNumbersTest {
         doc.is("not by 0", twice(1, 21).hill().game(0, 0, 0) > 0, true);
         doc.is("a span of 41 by the second time", twiceAndOne().game(0, 0, 1), MANY);
         doc.is("not by 0 each time", twiceAndOne().game(0, 0, 0) > 0, true);
+        doc.is("a span of 22 at most", stairs(0, 10, 0, 1).game(0, 1, 0), 66);
+        doc.is("a span of 39 at some moment, then less", stairs(0, 9, 1, 2).game(0, 1, 0), 112);
+        doc.is("a span of 40 at some moment, then less", stairs(0, 9, 2, 2).game(0, 1, 0), 114);
+        doc.is("a span of 41 at some moment, though it would be 0 by 98 falls", stairs(3, 8, 1, 2).game(0, 1, 0), MANY);
+        doc.is("a span of 43 at some moment, though it would be 0 by 134 falls", stairs(0, 10, 1, 2).game(0, 1, 0), MANY);
+        doc.is("not by 0", stairs(0, 10, 1, 2).game(0, 0, 0), 2);
+    }
+
+    /** w^(tower+w^(top)+ .. +w^(2)+w+more)*often: each of these stairs adds 2 to its SPAN. */
+    private static Downhill stairs(int tower, int top, int more, int often) {
+        Downhill hill = new Downhill();
+        if (tower > 0) {
+            tower(hill, 0, 1, tower);
+        }
+        for (int stair = top; stair > 0; stair--) {
+            hill.number(1, stair);
+            hill.power(1, 1);
+            hill.make(0, 0, 0, 1);
+        }
+        hill.number(1, more);
+        hill.make(0, 0, 0, 1);
+        hill.power(0, 0);
+        hill.number(1, often);
+        hill.make(0, 2, 0, 1);
+        return hill;
     }
 
     /** A tower twice and 1 behind it, with a SPAN of 22. */

@@ -18,6 +18,7 @@ public final class EdgesOfStepsTest {
         test.leads();
         test.rings();
         test.ringsOfEachSign();
+        test.ringsFarBack();
         test.ringsEnd();
         test.ringsLeft();
         test.choices();
@@ -189,6 +190,37 @@ public final class EdgesOfStepsTest {
             doc.is(signs + ", one is left", renamed(signs, one, "aax>bx", "bx>ax", "bx>cx", "cx>bx").ends(0), false);
             doc.is(signs + ", another one is left", renamed(signs, one, "aax>bx", "bx>ax", "ax>bx").ends(0), false);
         }
+    }
+
+    private static String rowOfE(int often) {
+        return "e".repeat(often) + "x";
+    }
+
+    /** Three RULES with a number of PAIRS in no RING, then two with a RING of one PAIR each. */
+    private static Downhill behind(int ahead, String one, String other) {
+        int first = Math.min(ahead, 11);
+        int second = Math.min(ahead - first, 11);
+        return unary("ax>" + rowOfE(first), "ax>" + rowOfE(second), "ax>" + rowOfE(ahead - first - second), one, other);
+    }
+
+    private void ringsFarBack() {
+        doc.section(3, "numbered by their first PAIRS.");
+        for (int ahead = 0; ahead <= 33; ahead++) {
+            String due = ahead + 2 + " [" + ahead + " " + (ahead + 1) + "]";
+            Downhill last = behind(ahead, "ex>bx", "bex>ex");
+            doc.is(ahead + " pairs ahead, the last one goes down", last.house(2) + " " + ringsOf(last) + last.ends(0), due + "true");
+            Downhill first = behind(ahead, "eex>bx", "bx>ex");
+            doc.is(ahead + " pairs ahead, the first one goes down", first.house(2) + " " + ringsOf(first) + first.ends(0),
+                    due + "true");
+            Downhill none = behind(ahead, "ex>bx", "bx>ex");
+            doc.is(ahead + " pairs ahead, none goes down", none.house(2) + " " + ringsOf(none) + none.ends(0), due + "false");
+        }
+        Downhill two = unary("ax>a" + rowOfE(10), "ax>" + rowOfE(11), "ax>" + rowOfE(11), "ex>bx", "bex>ex");
+        doc.is("the first pair and the last ones", ringsOf(two) + two.ends(0) + two.ends(1), "[0][33 34]falsetrue");
+        Downhill many = behind(33, "ex>bx", "b" + rowOfE(10) + ">" + rowOfE(11));
+        doc.is("many far back", ringsOf(many) + many.ends(0), "[33 34 35 36 37 38 39 40 41 42 43 44]false");
+        Downhill less = behind(33, "ex>bx", "b" + rowOfE(10) + ">" + rowOfE(10));
+        doc.is("many far back, all of them less", ringsOf(less) + less.ends(0), "[33 34 35 36 37 38 39 40 41 42 43]true");
     }
 
     private static boolean isEnding(String... rules) {

