@@ -282,6 +282,75 @@ public final class EdgesOfAllTest {
         for (int steps = 1; steps <= 8; steps++) {
             doc.is("of " + steps, full(steps).undo(), steps - 1);
         }
+        eachRuleBack();
+        eachOneBack();
+    }
+
+    /** RULES that went and were replaced come back one by one, whichever they are. */
+    private void eachRuleBack() {
+        doc.section(6, "to undo takes the last one: all is as ahead of that call (but who knocked).");
+        String[] rules = {"bx>x", "cxy>cyx", "ebbx>ebx", "cbxa>bd", "bbbx>ebex"};
+        for (int first = 0; first < rules.length; first++) {
+            Downhill hill = Check.ruled(rules);
+            Check.keep(hill, 0, "ccaxbx");
+            String before = Sentences.told(hill);
+            for (int rule = 4; rule >= first; rule--) {
+                hill.unrule();
+            }
+            hill.rule(0, 0);
+            for (int steps = 6 - first; steps > 0; steps--) {
+                hill.undo();
+            }
+            doc.is("from the rule " + first + " on", Sentences.told(hill), before);
+        }
+    }
+
+    /** Each SLOT, CELL and SIGN, told twice and then undone twice. */
+    private void eachOneBack() {
+        for (int i = 0; i < 6; i++) {
+            int one = i;
+            Sentences.Asked[][] calls = {
+                {hill -> hill.cut(one, 0, one), hill -> hill.cut(one, 2, one)},
+                {hill -> hill.keep(one), hill -> hill.put(one, 5, 1, one)},
+                {hill -> hill.number(one, 7), hill -> hill.make(one, 2, one, one)},
+                {hill -> hill.power(one, one), hill -> hill.fall(one, 2)},
+                {hill -> hill.weight(one, 8), hill -> hill.weight(one, 3)},
+                {hill -> hill.way(one % 5, 1), hill -> hill.way(one % 5, 2)},
+                {hill -> hill.sum(one % 5, 4, 5, 6, 7), hill -> hill.sum(one % 5, 9, 8, 2, 3)},
+                {hill -> hill.rank(one % 5, 4), hill -> hill.rank(one % 5, 0)},
+                {hill -> hill.rank(4 - one % 5, one % 4), hill -> hill.rank(one % 5, one % 3)}};
+            for (int row = 0; row < calls.length; row++) {
+                backAndForth(row + " of " + one, calls[row]);
+            }
+        }
+        for (int i = 0; i < 5; i++) {
+            int sign = i;
+            Downhill hill = new Downhill();
+            String before = Sentences.told(hill);
+            hill.arity(sign, 2);
+            String between = Sentences.told(hill);
+            hill.arity(sign, (sign + 1) % 2);
+            hill.undo();
+            doc.is("the arity of " + sign, Sentences.told(hill), between);
+            hill.undo();
+            doc.is("the first arity of " + sign, Sentences.told(hill), before);
+        }
+    }
+
+    private void backAndForth(String what, Sentences.Asked[] calls) {
+        Downhill hill = Check.hill("cbxa", "ebx", "cxa", "eba", "cabx", "bex");
+        for (int cell = 0; cell < 6; cell++) {
+            hill.number(cell, cell + 2);
+        }
+        Check.type(hill, "cebxa");
+        String before = Sentences.told(hill);
+        calls[0].of(hill);
+        String between = Sentences.told(hill);
+        calls[1].of(hill);
+        hill.undo();
+        doc.is(what + ", the second one undone", Sentences.told(hill), between);
+        hill.undo();
+        doc.is(what + ", both undone", Sentences.told(hill), before);
     }
 
     private void knock() {

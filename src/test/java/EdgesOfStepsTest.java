@@ -466,6 +466,10 @@ public final class EdgesOfStepsTest {
         doc.is("40 by the second step", Check.ruled("ebbbbbbbba>a", "ez>bz", "bz>ccezzczz").loop(2), 0);
         doc.is("41 by the second step", Check.ruled("ebbbbbbbba>a", "ez>bz", "bz>eccezzczz").loop(2), 1);
         doc.is("which take two", Check.ruled("ebbbbbbbba>a", "ez>bz", "bz>ccezzczz").loop(1), -1);
+        doc.is("40, the last letters of it", Check.ruled("ebbbbbbbba>a", "ez>cczzczez").loop(1), 0);
+        doc.is("41, the last letters of it", Check.ruled("ebbbbbbbba>a", "ez>bcczzczez").loop(1), 1);
+        doc.is("40 by the second step, the last letters of it", Check.ruled("ebbbbbbbba>a", "ez>bz", "bz>cczzczez").loop(2), 0);
+        doc.is("41 by the second step, the last letters of it", Check.ruled("ebbbbbbbba>a", "ez>bz", "bz>bcczzczez").loop(2), 1);
     }
 
     private void closed() {
